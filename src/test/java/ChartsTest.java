@@ -12,7 +12,8 @@ public final class ChartsTest {
     }
 
     private static void row(String row, int takes, int gives) {
-        CableChart x = Checks.taught("chart z row knit rest; chart a row purl row " + row + " row knit rest;");
+        CableChart x = Checks.taught("chart z row knit rest; chart a row purl row " + row
+                + " row knit rest;");
         CHECKS.same("what " + row + " takes", x.chart(1, 1, 0), takes);
         CHECKS.same("what " + row + " gives", x.chart(1, 1, 1), gives);
         CHECKS.same("what the row ahead takes", x.chart(1, 0, 0), 1);

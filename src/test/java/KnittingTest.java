@@ -23,22 +23,6 @@ public final class KnittingTest {
         CHECKS.finish();
     }
 
-    /** A piece that is knit, one row a chart's row. */
-    private static CableChart knit(int cast, String rows) {
-        CableChart x = Checks.taught("chart a " + rows + ";piece p cast " + cast
-                + " gauge 20 by 28 work a;");
-        x.knit(0);
-        return x;
-    }
-
-    private static void rowIs(CableChart x, int row, String sorts, int... strands) {
-        CHECKS.same("stitches of row " + row, x.many(0, row), sorts.length());
-        for (int i = 0; i < sorts.length(); i++) {
-            CHECKS.same("sort of " + row + ", " + i, x.stitch(0, row, i, 0), sorts.charAt(i) - '0');
-            CHECKS.same("strand of " + row + ", " + i, x.stitch(0, row, i, 1), strands[i]);
-        }
-    }
-
     private static void yarnIs(CableChart x, int yarn, int holes, int strands, int cables) {
         CHECKS.same("error", x.piece(0, 5), 0);
         CHECKS.same("yarn", x.piece(0, 3), yarn);
@@ -48,63 +32,64 @@ public final class KnittingTest {
     }
 
     private static void plainStitches() {
-        CableChart x = knit(6, "row knit purl 2 slip knit rest row slip rest purl rest");
-        rowIs(x, 0, "000000", 0, 1, 2, 3, 4, 5);
-        rowIs(x, 1, "122311", 0, 1, 2, 3, 4, 5);
-        rowIs(x, 2, "333333", 0, 1, 2, 3, 4, 5);
+        CableChart x = Checks.knit(6, "row knit purl 2 slip knit rest row slip rest purl rest");
+        CHECKS.rowIs(x, 0, "000000", 0, 1, 2, 3, 4, 5);
+        CHECKS.rowIs(x, 1, "122311", 0, 1, 2, 3, 4, 5);
+        CHECKS.rowIs(x, 2, "333333", 0, 1, 2, 3, 4, 5);
         yarnIs(x, 5, 0, 6, 0);
-        CableChart y = knit(1, "row purl rest");
-        rowIs(y, 1, "2", 0);
-        CableChart z = knit(60, "row knit 60 row slip 60 row purl 60");
+        CableChart y = Checks.knit(1, "row purl rest");
+        CHECKS.rowIs(y, 1, "2", 0);
+        CableChart z = Checks.knit(60, "row knit 60 row slip 60 row purl 60");
         CHECKS.same("many", z.many(0, 3), 60);
         CHECKS.same("the last strand", z.stitch(0, 3, 59, 1), 59);
         yarnIs(z, 120, 0, 60, 0);
     }
 
     private static void oversAndTogs() {
-        CableChart x = knit(4, "row over knit tog over slip row tog over tog knit row purl 2 tog");
-        rowIs(x, 1, "41543", 4, 0, 1, 5, 3);
-        rowIs(x, 2, "5451", 4, 6, 1, 3);
-        rowIs(x, 3, "225", 4, 6, 1);
+        CableChart x = Checks.knit(4,
+                "row over knit tog over slip row tog over tog knit row purl 2 tog");
+        CHECKS.rowIs(x, 1, "41543", 4, 0, 1, 5, 3);
+        CHECKS.rowIs(x, 2, "5451", 4, 6, 1, 3);
+        CHECKS.rowIs(x, 3, "225", 4, 6, 1);
         yarnIs(x, (1 + 1 + 2 + 1) + (2 + 1 + 2 + 1) + (2 + 2), 3, 7, 0);
         CHECKS.same("the tog's second strand is gone", x.where(0, 2, 1), -1);
     }
 
     private static void cables() {
-        CableChart x = knit(6, "row cable 2 front 3 knit row slip cable 1 back 4");
-        rowIs(x, 1, "777661", 2, 3, 4, 0, 1, 5);
-        rowIs(x, 2, "366667", 2, 4, 0, 1, 5, 3);
+        CableChart x = Checks.knit(6, "row cable 2 front 3 knit row slip cable 1 back 4");
+        CHECKS.rowIs(x, 1, "777661", 2, 3, 4, 0, 1, 5);
+        CHECKS.rowIs(x, 2, "366667", 2, 4, 0, 1, 5, 3);
         yarnIs(x, 11 + 10, 0, 6, 2);
-        CableChart y = knit(12, "row cable 6 back 6 row cable 6 front 6");
-        rowIs(y, 1, "666666777777", 6, 7, 8, 9, 10, 11, 0, 1, 2, 3, 4, 5);
-        rowIs(y, 2, "777777666666", 0, 1, 2, 3, 4, 5, 6, 7, 8, 9, 10, 11);
+        CableChart y = Checks.knit(12, "row cable 6 back 6 row cable 6 front 6");
+        CHECKS.rowIs(y, 1, "666666777777", 6, 7, 8, 9, 10, 11, 0, 1, 2, 3, 4, 5);
+        CHECKS.rowIs(y, 2, "777777666666", 0, 1, 2, 3, 4, 5, 6, 7, 8, 9, 10, 11);
         yarnIs(y, 48, 0, 12, 2);
     }
 
     private static void reps() {
-        CableChart x = knit(7, "row rep 2 [ knit rep 2 [ purl ] ] slip "
+        CableChart x = Checks.knit(7, "row rep 2 [ knit rep 2 [ purl ] ] slip "
                 + "row rep rest [ tog over ] knit row rep rest [ over knit 7 ] "
                 + "row rep rest [ knit 9 ] slip rest row rep rest [ over ] purl rest");
-        rowIs(x, 1, "1221223", 0, 1, 2, 3, 4, 5, 6);
-        rowIs(x, 2, "5454541", 0, 7, 2, 8, 4, 9, 6);
-        rowIs(x, 3, "41111111", 10, 0, 7, 2, 8, 4, 9, 6);
-        rowIs(x, 4, "33333333", 10, 0, 7, 2, 8, 4, 9, 6);
-        rowIs(x, 5, "22222222", 10, 0, 7, 2, 8, 4, 9, 6);
-        CableChart y = knit(5, "row knit rep rest [ purl 2 ] row knit rep rest [ purl 4 ] "
+        CHECKS.rowIs(x, 1, "1221223", 0, 1, 2, 3, 4, 5, 6);
+        CHECKS.rowIs(x, 2, "5454541", 0, 7, 2, 8, 4, 9, 6);
+        CHECKS.rowIs(x, 3, "41111111", 10, 0, 7, 2, 8, 4, 9, 6);
+        CHECKS.rowIs(x, 4, "33333333", 10, 0, 7, 2, 8, 4, 9, 6);
+        CHECKS.rowIs(x, 5, "22222222", 10, 0, 7, 2, 8, 4, 9, 6);
+        CableChart y = Checks.knit(5, "row knit rep rest [ purl 2 ] row knit rep rest [ purl 4 ] "
                 + "row knit rep rest [ purl 3 ] knit rest");
-        rowIs(y, 1, "12222", 0, 1, 2, 3, 4);
-        rowIs(y, 2, "12222", 0, 1, 2, 3, 4);
-        rowIs(y, 3, "12221", 0, 1, 2, 3, 4);
-        CableChart z = knit(60, "row rep 30 [ tog ] row rep 30 [ over knit ]");
+        CHECKS.rowIs(y, 1, "12222", 0, 1, 2, 3, 4);
+        CHECKS.rowIs(y, 2, "12222", 0, 1, 2, 3, 4);
+        CHECKS.rowIs(y, 3, "12221", 0, 1, 2, 3, 4);
+        CableChart z = Checks.knit(60, "row rep 30 [ tog ] row rep 30 [ over knit ]");
         CHECKS.same("rows with 30 times", z.piece(0, 1), 2);
         CHECKS.same("stitches with 30 times", z.piece(0, 2), 60);
         String seven = Checks.times(7, "rep 1 [ ");
         String shut = Checks.times(7, "] ");
-        CableChart deep = knit(6, "row rep 2 [ " + seven + "purl 3 " + shut + "] "
+        CableChart deep = Checks.knit(6, "row rep 2 [ " + seven + "purl 3 " + shut + "] "
                 + "row rep rest [ " + seven + "slip 2 " + shut + "] "
                 + "row rep rest [ " + seven + "knit 4 " + shut + "] rep 2 [ tog ]");
-        rowIs(deep, 1, "222222", 0, 1, 2, 3, 4, 5);
-        rowIs(deep, 2, "333333", 0, 1, 2, 3, 4, 5);
+        CHECKS.rowIs(deep, 1, "222222", 0, 1, 2, 3, 4, 5);
+        CHECKS.rowIs(deep, 2, "333333", 0, 1, 2, 3, 4, 5);
         CHECKS.same("8 behind the depth of 8", deep.piece(0, 5), 8);
     }
 
@@ -188,7 +173,8 @@ public final class KnittingTest {
     }
 
     private static void failedRowsCountNothing() {
-        CableChart x = knit(5, "row over cable 2 front 1 tog row over over tog cable 1 back 1 knit 9");
+        CableChart x = Checks.knit(5,
+                "row over cable 2 front 1 tog row over over tog cable 1 back 1 knit 9");
         CHECKS.same("error", x.piece(0, 5), 8);
         CHECKS.same("rows", x.piece(0, 1), 1);
         CHECKS.same("stitches", x.piece(0, 2), 5);
@@ -200,7 +186,7 @@ public final class KnittingTest {
         CHECKS.same("crosses of the row that is there", x.crosses(0, 0, 2), 1);
         CHECKS.same("crosses of the row that is not", x.crosses(0, 1, 0), 0);
         CHECKS.noSuch("the row that is not there", () -> x.wide(0, 2));
-        rowIs(x, 1, "47665", 5, 2, 0, 1, 3);
+        CHECKS.rowIs(x, 1, "47665", 5, 2, 0, 1, 3);
     }
 
     private static void works() {
@@ -288,7 +274,7 @@ public final class KnittingTest {
     }
 
     private static void wheres() {
-        CableChart x = knit(4, "row cable 1 front 3 row over tog knit rest");
+        CableChart x = Checks.knit(4, "row cable 1 front 3 row over tog knit rest");
         CHECKS.same("0 in row 0", x.where(0, 0, 0), 0);
         CHECKS.same("3 in row 0", x.where(0, 3, 0), 3);
         CHECKS.same("4 in row 0", x.where(0, 4, 0), -1);
@@ -302,11 +288,11 @@ public final class KnittingTest {
     }
 
     private static void crossings() {
-        CableChart x = knit(6, "row cable 1 front 2 cable 2 back 1 "
+        CableChart x = Checks.knit(6, "row cable 1 front 2 cable 2 back 1 "
                 + "row cable 2 back 1 cable 1 front 2 row slip rest row slip 6 "
                 + "row cable 1 front 2 cable 1 front 2");
         // row 1: 1 2 0 | 5 3 4, row 2: 0 1 2 | 3 4 5, row 5: 1 2 0 | 4 5 3
-        rowIs(x, 5, "776776", 1, 2, 0, 4, 5, 3);
+        CHECKS.rowIs(x, 5, "776776", 1, 2, 0, 4, 5, 3);
         int[][] due = new int[6][6];
         due[0][1] = 3;
         due[0][2] = 3;
@@ -337,18 +323,20 @@ public final class KnittingTest {
     }
 
     private static void fronts() {
-        CHECKS.same("front without cables", knit(4, "row knit 4").front(0), -1);
-        CHECKS.same("front of two at once", knit(4, "row cable 2 front 2").front(0), 0);
-        CHECKS.same("front of the others", knit(4, "row cable 2 back 2").front(0), 2);
+        CHECKS.same("front without cables", Checks.knit(4, "row knit 4").front(0), -1);
+        CHECKS.same("front of two at once", Checks.knit(4, "row cable 2 front 2").front(0), 0);
+        CHECKS.same("front of the others", Checks.knit(4, "row cable 2 back 2").front(0), 2);
         CHECKS.same("front counts each other one",
-                knit(7, "row cable 2 front 1 cable 1 front 3").front(0), 3);
+                Checks.knit(7, "row cable 2 front 1 cable 1 front 3").front(0), 3);
         CHECKS.same("of several the smallest number",
-                knit(6, "row cable 2 back 1 cable 2 back 1 row rep 2 [ cable 1 back 2 ]").front(0),
+                Checks.knit(6,
+                        "row cable 2 back 1 cable 2 back 1 row rep 2 [ cable 1 back 2 ]").front(0),
                 2);
-        CHECKS.same("front by several cables", knit(5, "row slip cable 1 front 1 cable 1 front 1 "
+        CHECKS.same("front by several cables", Checks.knit(5,
+                "row slip cable 1 front 1 cable 1 front 1 "
                 + "row slip 2 cable 1 front 1 slip row slip 3 cable 1 back 1").front(0), 1);
         CHECKS.same("front of a strand of an over",
-                knit(3, "row over slip rest row cable 1 front 3").front(0), 3);
+                Checks.knit(3, "row over slip rest row cable 1 front 3").front(0), 3);
         CableChart x = Checks.taught("chart a row cable 1 front 1; piece p cast 2 gauge 1 by 1"
                 + " work a; piece q cast 2 gauge 1 by 1;");
         CHECKS.same("front of an unknit piece", x.front(0), -1);

@@ -22,32 +22,6 @@ public final class LanguageTest {
         CHECKS.finish();
     }
 
-    private static void error(String text, int error, int position) {
-        CableChart x = new CableChart();
-        CHECKS.same("teach of " + text, Checks.teach(x, text), error);
-        CHECKS.same("errorAt of " + text, x.errorAt(), position);
-        CHECKS.same("tape behind " + text, x.count(6), 0);
-        if (error != 0) {
-            CHECKS.same("charts behind " + text, x.count(0), 0);
-            CHECKS.same("pieces behind " + text, x.count(1), 0);
-        }
-    }
-
-    private static void good(String text) {
-        error(text, 0, -1);
-    }
-
-    /** Error 1 at the place where the text with a mark has it. */
-    private static void notDueAt(String marked) {
-        int at = marked.indexOf('@');
-        error(marked.replace("@", ""), 1, at);
-    }
-
-    private static void errorAtMark(String marked, int error) {
-        int at = marked.indexOf('@');
-        error(marked.replace("@", ""), error, at);
-    }
-
     private static void newObject() {
         CableChart x = new CableChart();
         for (int what = 0; what < 7; what++) {
@@ -104,116 +78,116 @@ public final class LanguageTest {
     }
 
     private static void blanksAndTokens() {
-        good("");
-        good("   \n \n");
-        good(" \nchart\na\nrow\nknit ; \n");
-        good("chart a row knit 2purl 3slip 4over tog;");
-        good("chart a1 row rep 2[cable 1front 2]row knit;");
-        good("chart abcdefghij row knit;");
-        good("chart a row knit 000060;");
-        good(PIECE + " when 1<=2;");
-        notDueAt("@\tchart a row knit;");
-        notDueAt("chart a row knit@\r;");
-        notDueAt("chart a row knit@\0;");
-        notDueAt("chart a row @Knit;");
-        notDueAt("chart a row knit@\u00e9;");
-        notDueAt("chart @abcdefghijk row knit;");
-        notDueAt("chart @a234567890b row knit;");
-        good("chart a234567890 row knit;");
-        notDueAt("chart a row knit @0000001;");
-        good(PIECE + " times 999999;");
-        notDueAt(PIECE + " times @1000000;");
-        notDueAt("chart @row row knit;");
-        notDueAt("chart @1a row knit;");
-        notDueAt("chart @min row knit;");
-        notDueAt("chart a @rowknit;");
-        good("chart rows1 row knit;");
-        notDueAt("chart a row @knit5;");
-        notDueAt(PIECE + " when 1 < @= 2;");
-        notDueAt(PIECE + " when 1 =@< 2;");
-        notDueAt(PIECE + " when 1 >@> 2;");
-        good(PIECE + " when 1>=2;");
+        CHECKS.good("");
+        CHECKS.good("   \n \n");
+        CHECKS.good(" \nchart\na\nrow\nknit ; \n");
+        CHECKS.good("chart a row knit 2purl 3slip 4over tog;");
+        CHECKS.good("chart a1 row rep 2[cable 1front 2]row knit;");
+        CHECKS.good("chart abcdefghij row knit;");
+        CHECKS.good("chart a row knit 000060;");
+        CHECKS.good(PIECE + " when 1<=2;");
+        CHECKS.notDueAt("@\tchart a row knit;");
+        CHECKS.notDueAt("chart a row knit@\r;");
+        CHECKS.notDueAt("chart a row knit@\0;");
+        CHECKS.notDueAt("chart a row @Knit;");
+        CHECKS.notDueAt("chart a row knit@\u00e9;");
+        CHECKS.notDueAt("chart @abcdefghijk row knit;");
+        CHECKS.notDueAt("chart @a234567890b row knit;");
+        CHECKS.good("chart a234567890 row knit;");
+        CHECKS.notDueAt("chart a row knit @0000001;");
+        CHECKS.good(PIECE + " times 999999;");
+        CHECKS.notDueAt(PIECE + " times @1000000;");
+        CHECKS.notDueAt("chart @row row knit;");
+        CHECKS.notDueAt("chart @1a row knit;");
+        CHECKS.notDueAt("chart @min row knit;");
+        CHECKS.notDueAt("chart a @rowknit;");
+        CHECKS.good("chart rows1 row knit;");
+        CHECKS.notDueAt("chart a row @knit5;");
+        CHECKS.notDueAt(PIECE + " when 1 < @= 2;");
+        CHECKS.notDueAt(PIECE + " when 1 =@< 2;");
+        CHECKS.notDueAt(PIECE + " when 1 >@> 2;");
+        CHECKS.good(PIECE + " when 1>=2;");
     }
 
     private static void notDue() {
-        notDueAt("@;");
-        notDueAt("@knit");
-        notDueAt("chart@");
-        notDueAt("chart a@");
-        notDueAt("chart a  \n @");
-        notDueAt("chart a row@;");
-        notDueAt("chart a @knit;");
-        notDueAt("chart a row @a;");
-        notDueAt("chart a row @5;");
-        notDueAt("chart a row knit 5 @5;");
-        notDueAt("chart a row knit rest @rest;");
-        notDueAt("chart a row knit row@;");
-        notDueAt("chart a row over @2;");
-        notDueAt("chart a row tog @rest;");
-        notDueAt("chart a row cable @front 2;");
-        notDueAt("chart a row cable @rest front 2;");
-        notDueAt("chart a row cable 2 @2;");
-        notDueAt("chart a row cable 2 front@;");
-        notDueAt("chart a row rep @[ knit ];");
-        notDueAt("chart a row rep 2 @knit;");
-        notDueAt("chart a row rep 2 [@];");
-        notDueAt("chart a row rep 2 [knit @;");
-        notDueAt("chart a row rep 2 [knit @row knit];");
-        notDueAt("chart a row knit @];");
-        notDueAt("chart a row knit @");
-        notDueAt("chart a row knit @chart b row knit;");
-        notDueAt("chart a row knit;@;");
-        notDueAt("piece @5");
-        notDueAt("piece p @gauge 1 by 1;");
-        notDueAt("piece p cast @;");
-        notDueAt("piece p cast 1 @by 1;");
-        notDueAt("piece p cast 1 gauge 1 @1;");
-        notDueAt("piece p cast 1 gauge 1 by @p;");
-        notDueAt("piece p cast 1 gauge 1 by 1@");
-        notDueAt("piece p cast 1 gauge 1 by 1 @times 2;");
-        notDueAt("piece p cast 1 gauge 1 by 1 work @;");
-        notDueAt(PIECE + " times@;");
-        notDueAt(PIECE + " times 3 @4;");
-        notDueAt(PIECE + " times 3 @< 4;");
-        notDueAt(PIECE + " times @done p;");
-        notDueAt(PIECE + " times 2 @times 3;");
-        notDueAt(PIECE + " when 1 = 1 @times 3;");
-        notDueAt(PIECE + " when 1 = 1 @when 1 = 1;");
-        notDueAt(PIECE + " when 1@;");
-        notDueAt(PIECE + " when 1 + @< 3;");
-        notDueAt(PIECE + " when 1 < @;");
-        notDueAt(PIECE + " when 1 < 2 @< 3;");
-        notDueAt(PIECE + " when [1 < 2@;");
-        notDueAt(PIECE + " when [1 < 2@);");
-        notDueAt(PIECE + " when (1 @< 2);");
-        notDueAt(PIECE + " when [1@] < 2;");
-        notDueAt(PIECE + " when done @;");
-        notDueAt(PIECE + " when done @5;");
-        notDueAt(PIECE + " when @and 1 = 1;");
-        notDueAt(PIECE + " when 1 = 1 or@;");
-        notDueAt(PIECE + " when not@;");
-        notDueAt(PIECE + " when @a = 1;");
-        notDueAt(PIECE + " times min @3;");
-        notDueAt(PIECE + " times min(1@);");
-        notDueAt(PIECE + " times max(1, 2@, 3);");
-        notDueAt(PIECE + " times max(1, @);");
-        notDueAt(PIECE + " times -@;");
-        notDueAt(PIECE + " times @not 1;");
-        notDueAt(PIECE + " times (1@;");
-        notDueAt(PIECE + " times (@);");
-        good(PIECE + " times -1 when not not 1 = 2 and [1 = 1 or 3 > 2];");
+        CHECKS.notDueAt("@;");
+        CHECKS.notDueAt("@knit");
+        CHECKS.notDueAt("chart@");
+        CHECKS.notDueAt("chart a@");
+        CHECKS.notDueAt("chart a  \n @");
+        CHECKS.notDueAt("chart a row@;");
+        CHECKS.notDueAt("chart a @knit;");
+        CHECKS.notDueAt("chart a row @a;");
+        CHECKS.notDueAt("chart a row @5;");
+        CHECKS.notDueAt("chart a row knit 5 @5;");
+        CHECKS.notDueAt("chart a row knit rest @rest;");
+        CHECKS.notDueAt("chart a row knit row@;");
+        CHECKS.notDueAt("chart a row over @2;");
+        CHECKS.notDueAt("chart a row tog @rest;");
+        CHECKS.notDueAt("chart a row cable @front 2;");
+        CHECKS.notDueAt("chart a row cable @rest front 2;");
+        CHECKS.notDueAt("chart a row cable 2 @2;");
+        CHECKS.notDueAt("chart a row cable 2 front@;");
+        CHECKS.notDueAt("chart a row rep @[ knit ];");
+        CHECKS.notDueAt("chart a row rep 2 @knit;");
+        CHECKS.notDueAt("chart a row rep 2 [@];");
+        CHECKS.notDueAt("chart a row rep 2 [knit @;");
+        CHECKS.notDueAt("chart a row rep 2 [knit @row knit];");
+        CHECKS.notDueAt("chart a row knit @];");
+        CHECKS.notDueAt("chart a row knit @");
+        CHECKS.notDueAt("chart a row knit @chart b row knit;");
+        CHECKS.notDueAt("chart a row knit;@;");
+        CHECKS.notDueAt("piece @5");
+        CHECKS.notDueAt("piece p @gauge 1 by 1;");
+        CHECKS.notDueAt("piece p cast @;");
+        CHECKS.notDueAt("piece p cast 1 @by 1;");
+        CHECKS.notDueAt("piece p cast 1 gauge 1 @1;");
+        CHECKS.notDueAt("piece p cast 1 gauge 1 by @p;");
+        CHECKS.notDueAt("piece p cast 1 gauge 1 by 1@");
+        CHECKS.notDueAt("piece p cast 1 gauge 1 by 1 @times 2;");
+        CHECKS.notDueAt("piece p cast 1 gauge 1 by 1 work @;");
+        CHECKS.notDueAt(PIECE + " times@;");
+        CHECKS.notDueAt(PIECE + " times 3 @4;");
+        CHECKS.notDueAt(PIECE + " times 3 @< 4;");
+        CHECKS.notDueAt(PIECE + " times @done p;");
+        CHECKS.notDueAt(PIECE + " times 2 @times 3;");
+        CHECKS.notDueAt(PIECE + " when 1 = 1 @times 3;");
+        CHECKS.notDueAt(PIECE + " when 1 = 1 @when 1 = 1;");
+        CHECKS.notDueAt(PIECE + " when 1@;");
+        CHECKS.notDueAt(PIECE + " when 1 + @< 3;");
+        CHECKS.notDueAt(PIECE + " when 1 < @;");
+        CHECKS.notDueAt(PIECE + " when 1 < 2 @< 3;");
+        CHECKS.notDueAt(PIECE + " when [1 < 2@;");
+        CHECKS.notDueAt(PIECE + " when [1 < 2@);");
+        CHECKS.notDueAt(PIECE + " when (1 @< 2);");
+        CHECKS.notDueAt(PIECE + " when [1@] < 2;");
+        CHECKS.notDueAt(PIECE + " when done @;");
+        CHECKS.notDueAt(PIECE + " when done @5;");
+        CHECKS.notDueAt(PIECE + " when @and 1 = 1;");
+        CHECKS.notDueAt(PIECE + " when 1 = 1 or@;");
+        CHECKS.notDueAt(PIECE + " when not@;");
+        CHECKS.notDueAt(PIECE + " when @a = 1;");
+        CHECKS.notDueAt(PIECE + " times min @3;");
+        CHECKS.notDueAt(PIECE + " times min(1@);");
+        CHECKS.notDueAt(PIECE + " times max(1, 2@, 3);");
+        CHECKS.notDueAt(PIECE + " times max(1, @);");
+        CHECKS.notDueAt(PIECE + " times -@;");
+        CHECKS.notDueAt(PIECE + " times @not 1;");
+        CHECKS.notDueAt(PIECE + " times (1@;");
+        CHECKS.notDueAt(PIECE + " times (@);");
+        CHECKS.good(PIECE + " times -1 when not not 1 = 2 and [1 = 1 or 3 > 2];");
     }
 
     private static void longestPattern() {
-        good("chart a row " + Checks.times(396, "tog ") + ";");
-        notDueAt("chart a row " + Checks.times(397, "tog ") + "@;");
-        notDueAt("chart a row " + Checks.times(397, "tog ") + "@");
-        notDueAt("chart a row " + Checks.times(397, "tog ") + "@knit;");
-        notDueAt("chart a row " + Checks.times(397, "tog ") + "@#");
-        notDueAt("chart a row " + Checks.times(396, "tog ") + "; @chart");
+        CHECKS.good("chart a row " + Checks.times(396, "tog ") + ";");
+        CHECKS.notDueAt("chart a row " + Checks.times(397, "tog ") + "@;");
+        CHECKS.notDueAt("chart a row " + Checks.times(397, "tog ") + "@");
+        CHECKS.notDueAt("chart a row " + Checks.times(397, "tog ") + "@knit;");
+        CHECKS.notDueAt("chart a row " + Checks.times(397, "tog ") + "@#");
+        CHECKS.notDueAt("chart a row " + Checks.times(396, "tog ") + "; @chart");
         String full = "chart a row " + Checks.times(396, "over ");
-        good(full + ";" + Checks.times(2000 - full.length() - 1, " "));
-        notDueAt(full + Checks.times(2000 - full.length(), "\n") + "@");
+        CHECKS.good(full + ";" + Checks.times(2000 - full.length() - 1, " "));
+        CHECKS.notDueAt(full + Checks.times(2000 - full.length(), "\n") + "@");
     }
 
     private static void depth() {
@@ -222,92 +196,78 @@ public final class LanguageTest {
         for (int i = 0; i < 2; i++) {
             String eight = Checks.times(8, openings[i]);
             String shut = Checks.times(8, closings[i]);
-            good(PIECE + " times " + eight + "1" + shut + ";");
-            good(PIECE + " when " + eight + "1" + shut + " = 1;");
-            good(PIECE + " times 1 + " + eight + "1" + shut + " * " + eight + "1" + shut + ";");
-            notDueAt(PIECE + " times " + eight + "@(1" + shut + ");");
-            notDueAt(PIECE + " times " + eight + "@-1" + shut + ";");
-            notDueAt(PIECE + " times " + eight + "min @(1, 2)" + shut + ";");
+            CHECKS.good(PIECE + " times " + eight + "1" + shut + ";");
+            CHECKS.good(PIECE + " when " + eight + "1" + shut + " = 1;");
+            CHECKS.good(PIECE + " times 1 + " + eight + "1" + shut + " * " + eight + "1" + shut
+                    + ";");
+            CHECKS.notDueAt(PIECE + " times " + eight + "@(1" + shut + ");");
+            CHECKS.notDueAt(PIECE + " times " + eight + "@-1" + shut + ";");
+            CHECKS.notDueAt(PIECE + " times " + eight + "min @(1, 2)" + shut + ";");
         }
         String nots = Checks.times(8, "not ");
-        good(PIECE + " when " + nots + "1 = 1 and " + nots + "1 < 2;");
-        notDueAt(PIECE + " when " + nots + "@not 1 = 1;");
-        notDueAt(PIECE + " when " + nots + "@[1 = 1];");
-        notDueAt(PIECE + " when " + nots + "@(1) = 1;");
-        notDueAt(PIECE + " when " + nots + "1 = @-1;");
-        good(PIECE + " when " + nots + "1 = 1 and not -1 = 1;");
+        CHECKS.good(PIECE + " when " + nots + "1 = 1 and " + nots + "1 < 2;");
+        CHECKS.notDueAt(PIECE + " when " + nots + "@not 1 = 1;");
+        CHECKS.notDueAt(PIECE + " when " + nots + "@[1 = 1];");
+        CHECKS.notDueAt(PIECE + " when " + nots + "@(1) = 1;");
+        CHECKS.notDueAt(PIECE + " when " + nots + "1 = @-1;");
+        CHECKS.good(PIECE + " when " + nots + "1 = 1 and not -1 = 1;");
         String squares = Checks.times(8, "[");
-        good(PIECE + " when " + squares + "1 = 1" + Checks.times(8, "]") + ";");
-        notDueAt(PIECE + " when " + squares + "@[1 = 1" + Checks.times(9, "]") + ";");
-        notDueAt(PIECE + " when [[not not (--max(1, @(2))) = 1;");
-        good(PIECE + " when [[not not (--max(1, 2)) = 1]];");
-        good(PIECE + " times ((((((((1 - 2)))))))) - -3;");
+        CHECKS.good(PIECE + " when " + squares + "1 = 1" + Checks.times(8, "]") + ";");
+        CHECKS.notDueAt(PIECE + " when " + squares + "@[1 = 1" + Checks.times(9, "]") + ";");
+        CHECKS.notDueAt(PIECE + " when [[not not (--max(1, @(2))) = 1;");
+        CHECKS.good(PIECE + " when [[not not (--max(1, 2)) = 1]];");
+        CHECKS.good(PIECE + " times ((((((((1 - 2)))))))) - -3;");
         String reps = Checks.times(8, "rep 1 [");
-        good("chart a row " + reps + "knit" + Checks.times(8, "]") + ";");
-        good("chart a row " + reps + "knit" + Checks.times(8, "]") + reps + "knit"
+        CHECKS.good("chart a row " + reps + "knit" + Checks.times(8, "]") + ";");
+        CHECKS.good("chart a row " + reps + "knit" + Checks.times(8, "]") + reps + "knit"
                 + Checks.times(8, "]") + "row " + reps + "knit" + Checks.times(8, "]") + ";");
-        notDueAt("chart a row " + reps + "rep 1 @[knit" + Checks.times(9, "]") + ";");
+        CHECKS.notDueAt("chart a row " + reps + "rep 1 @[knit" + Checks.times(9, "]") + ";");
     }
 
     private static void names() {
-        errorAtMark("chart a row knit; chart @a row knit;", 2);
-        errorAtMark("piece a cast 1 gauge 1 by 1; piece @a cast 1 gauge 1 by 1;", 2);
-        good("chart a row knit; piece a cast 1 gauge 1 by 1 work a;");
-        good("chart a row knit; chart a0 row knit; chart aa row knit; chart b row knit;");
+        CHECKS.errorAtMark("chart a row knit; chart @a row knit;", 2);
+        CHECKS.errorAtMark("piece a cast 1 gauge 1 by 1; piece @a cast 1 gauge 1 by 1;", 2);
+        CHECKS.good("chart a row knit; piece a cast 1 gauge 1 by 1 work a;");
+        CHECKS.good("chart a row knit; chart a0 row knit; chart aa row knit; chart b row knit;");
         for (String near : new String[] {"a aa aaa aaaaaaaaaa aaaaaaaaa a0 a00 a1",
             "b ba ab bb b0 b9 z z9", "z z0 az bz a9 b0 ba9 b00", "abcdefghij abcdefghi "
             + "bcdefghij abcdefghi0 abcdefghi9 z999999999 z99999999 zzzzzzzzzz"}) {
-            good("chart " + near.replace(" ", " row knit; chart ") + " row knit;");
+            CHECKS.good("chart " + near.replace(" ", " row knit; chart ") + " row knit;");
         }
-        errorAtMark("piece p cast 1 gauge 1 by 1 work @a; chart a row knit;", 3);
-        errorAtMark(CHART + "piece p cast 1 gauge 1 by 1 work a work @b;", 3);
-        errorAtMark(CHART + "piece p cast 1 gauge 1 by 1 work @p;", 3);
-        errorAtMark(PIECE + " when done @p;", 3);
-        errorAtMark(PIECE + " when done @a;", 3);
-        errorAtMark(PIECE + " when done @q; piece q cast 1 gauge 1 by 1;", 3);
-        errorAtMark(PIECE + "; piece q cast 1 gauge 1 by 1 work a when done p and done @q;", 3);
-        good(PIECE + "; piece q cast 1 gauge 1 by 1 work a when done p and done p;");
-    }
-
-    private static String charts(int many) {
-        StringBuilder text = new StringBuilder();
-        for (int i = 0; i < many; i++) {
-            text.append("chart c").append(i).append(" row knit;");
-        }
-        return text.toString();
-    }
-
-    private static String pieces(int many) {
-        StringBuilder text = new StringBuilder();
-        for (int i = 0; i < many; i++) {
-            text.append("piece p").append(i).append(" cast 1 gauge 1 by 1;");
-        }
-        return text.toString();
+        CHECKS.errorAtMark("piece p cast 1 gauge 1 by 1 work @a; chart a row knit;", 3);
+        CHECKS.errorAtMark(CHART + "piece p cast 1 gauge 1 by 1 work a work @b;", 3);
+        CHECKS.errorAtMark(CHART + "piece p cast 1 gauge 1 by 1 work @p;", 3);
+        CHECKS.errorAtMark(PIECE + " when done @p;", 3);
+        CHECKS.errorAtMark(PIECE + " when done @a;", 3);
+        CHECKS.errorAtMark(PIECE + " when done @q; piece q cast 1 gauge 1 by 1;", 3);
+        CHECKS.errorAtMark(PIECE + "; piece q cast 1 gauge 1 by 1 work a when done p and done @q;",
+                3);
+        CHECKS.good(PIECE + "; piece q cast 1 gauge 1 by 1 work a when done p and done p;");
     }
 
     private static void tooMany() {
-        good(charts(8) + pieces(4));
-        errorAtMark(charts(8) + "chart @c8 row knit;", 4);
-        errorAtMark(charts(8) + "chart @c7 row knit;", 2);
-        errorAtMark(pieces(4) + "piece @p4 cast 1 gauge 1 by 1;", 4);
-        errorAtMark(pieces(4) + "piece @p0 cast 1 gauge 1 by 1;", 2);
+        CHECKS.good(Checks.charts(8) + Checks.pieces(4));
+        CHECKS.errorAtMark(Checks.charts(8) + "chart @c8 row knit;", 4);
+        CHECKS.errorAtMark(Checks.charts(8) + "chart @c7 row knit;", 2);
+        CHECKS.errorAtMark(Checks.pieces(4) + "piece @p4 cast 1 gauge 1 by 1;", 4);
+        CHECKS.errorAtMark(Checks.pieces(4) + "piece @p0 cast 1 gauge 1 by 1;", 2);
         String rows = Checks.times(12, "row knit ");
-        good("chart a " + rows + "; chart b " + rows + ";");
-        errorAtMark("chart a " + rows + "@row knit;", 4);
-        errorAtMark("chart a row knit; chart b " + rows + "@row knit;", 4);
+        CHECKS.good("chart a " + rows + "; chart b " + rows + ";");
+        CHECKS.errorAtMark("chart a " + rows + "@row knit;", 4);
+        CHECKS.errorAtMark("chart a row knit; chart b " + rows + "@row knit;", 4);
         String works = Checks.times(12, " work a");
         String piece = "piece p cast 1 gauge 1 by 1";
-        good(CHART + piece + works + ";" + piece.replace("p ", "q ") + works + ";");
-        errorAtMark(CHART + piece + works + " @work a;", 4);
-        errorAtMark(CHART + piece + works + " @work b;", 4);
+        CHECKS.good(CHART + piece + works + ";" + piece.replace("p ", "q ") + works + ";");
+        CHECKS.errorAtMark(CHART + piece + works + " @work a;", 4);
+        CHECKS.errorAtMark(CHART + piece + works + " @work b;", 4);
     }
 
     private static void range(String ahead, String behind, int most) {
         for (int number : new int[] {1, most}) {
-            good(ahead + " " + number + " " + behind);
+            CHECKS.good(ahead + " " + number + " " + behind);
         }
         for (int number : new int[] {0, most + 1, 999999}) {
-            error(ahead + " " + number + " " + behind, 5, ahead.length() + 1);
+            CHECKS.error(ahead + " " + number + " " + behind, 5, ahead.length() + 1);
         }
     }
 
@@ -323,29 +283,29 @@ public final class LanguageTest {
         range("piece p cast", "gauge 1 by 1;", 60);
         range("piece p cast 1 gauge", "by 1;", 40);
         range("piece p cast 1 gauge 1 by", ";", 40);
-        good(PIECE + " times 0 when 0 = 999999;");
-        good(PIECE + " times (0) * 61 when 61 < min(999, 0);");
+        CHECKS.good(PIECE + " times 0 when 0 = 999999;");
+        CHECKS.good(PIECE + " times (0) * 61 when 61 < min(999, 0);");
     }
 
     private static void restsInReps() {
-        good("chart a row knit rest purl rest slip rest rep rest [ knit ];");
-        errorAtMark("chart a row rep 2 [ knit @rest ];", 6);
-        errorAtMark("chart a row rep rest [ purl @rest ];", 6);
-        errorAtMark("chart a row rep 2 [ over rep 3 [ tog slip @rest ] ];", 6);
-        errorAtMark("chart a row rep 2 [ knit rep @rest [ knit ] ];", 6);
-        errorAtMark("chart a row rep 2 [ rep 2 [ over ] knit @rest ];", 6);
-        good("chart a row rep 2 [ rep 2 [ over ] ] knit rest;");
+        CHECKS.good("chart a row knit rest purl rest slip rest rep rest [ knit ];");
+        CHECKS.errorAtMark("chart a row rep 2 [ knit @rest ];", 6);
+        CHECKS.errorAtMark("chart a row rep rest [ purl @rest ];", 6);
+        CHECKS.errorAtMark("chart a row rep 2 [ over rep 3 [ tog slip @rest ] ];", 6);
+        CHECKS.errorAtMark("chart a row rep 2 [ knit rep @rest [ knit ] ];", 6);
+        CHECKS.errorAtMark("chart a row rep 2 [ rep 2 [ over ] knit @rest ];", 6);
+        CHECKS.good("chart a row rep 2 [ rep 2 [ over ] ] knit rest;");
     }
 
     private static void firstErrorWins() {
-        notDueAt("chart a row knit 61; chart a row rep 2 [ knit rest ] @)");
-        errorAtMark("chart a row knit @61; chart a row rep 2 [ knit rest ];", 5);
-        errorAtMark("chart a row rep 2 [ knit @rest ] knit 0; chart a row knit;", 6);
-        errorAtMark("chart a row knit; chart @a row rep 2 [ knit rest ] knit 0;", 2);
-        errorAtMark("piece p cast 1 gauge 1 by 1 work @a when done p;", 3);
-        errorAtMark("piece p cast @0 gauge 0 by 0 work a;", 5);
-        errorAtMark("chart a row cable @0 front 7;", 5);
-        errorAtMark("chart a row rep @31 [ knit rest ];", 5);
+        CHECKS.notDueAt("chart a row knit 61; chart a row rep 2 [ knit rest ] @)");
+        CHECKS.errorAtMark("chart a row knit @61; chart a row rep 2 [ knit rest ];", 5);
+        CHECKS.errorAtMark("chart a row rep 2 [ knit @rest ] knit 0; chart a row knit;", 6);
+        CHECKS.errorAtMark("chart a row knit; chart @a row rep 2 [ knit rest ] knit 0;", 2);
+        CHECKS.errorAtMark("piece p cast 1 gauge 1 by 1 work @a when done p;", 3);
+        CHECKS.errorAtMark("piece p cast @0 gauge 0 by 0 work a;", 5);
+        CHECKS.errorAtMark("chart a row cable @0 front 7;", 5);
+        CHECKS.errorAtMark("chart a row rep @31 [ knit rest ];", 5);
     }
 
     private static void errorLeavesAll() {
@@ -353,7 +313,8 @@ public final class LanguageTest {
         CHECKS.same("knit", x.knit(0), 0);
         long digest = x.digest();
         for (String bad : new String[] {"chart", "chart b row knit; chart b row knit;",
-                "piece q cast 61 gauge 1 by 1;", charts(9), "chart b row rep 1 [slip rest];"}) {
+                "piece q cast 61 gauge 1 by 1;", Checks.charts(9),
+                        "chart b row rep 1 [slip rest];"}) {
             CHECKS.holds("an error in " + bad, Checks.teach(x, bad) != 0);
             CHECKS.holds("a position in " + bad, x.errorAt() >= 0);
             CHECKS.same("digest behind " + bad, x.digest(), digest);
@@ -398,7 +359,8 @@ public final class LanguageTest {
             "min(3, -4) = -4", "max(3, -4) = 3", "min(2, 2) = 2", "max(rows, stitches) = 4",
             "65536 * 65536 = 0", "65536 * 32768 < 0", "65536 * 32768 - 1 > 0",
             "65536 * 32768 / -1 = 65536 * 32768", "-(65536 * 32768) = 65536 * 32768",
-            "65536 * 32767 + 65535 + 1 = 65536 * 32768", "46341 * 46341 = -((2147 * 1000 + 479) * 1000 + 15)",
+            "65536 * 32767 + 65535 + 1 = 65536 * 32768",
+                    "46341 * 46341 = -((2147 * 1000 + 479) * 1000 + 15)",
             "999999 * 999999 = -(729379 * 1000 + 967)",
             "65536 * 32768 / 65536 = -32768", "min(65536 * 32768, 0) < 0"};
         for (String test : that) {

@@ -1,10 +1,14 @@
 import java.util.ArrayList;
 import java.util.List;
 import java.util.Random;
+import java.util.Set;
+import java.util.TreeSet;
 
 /** Asks the class and the model the same random questions, from fixed seeds. */
 public final class ModelTest {
     private static final int RUNS = Integer.getInteger("runs", 1500);
+    /** What an object answers to later calls is free. */
+    private static final int MOST_CALLS = 512;
 
     interface Answer {
         Object of();
@@ -288,6 +292,9 @@ public final class ModelTest {
     }
 
     private void ask(String call, Answer got, Answer due) {
+        if (calls == MOST_CALLS) {
+            return;
+        }
         calls++;
         Object a = outcome(got);
         Object b = outcome(due);
@@ -311,7 +318,10 @@ public final class ModelTest {
     }
 
     private void teach() {
-        String text = new Writer(random).text();
+        teach(new Writer(random).text());
+    }
+
+    private void teach(String text) {
         log.append("---- ").append(text.replace("\n", "\\n")).append('\n');
         byte[] bytes = java.util.Arrays.copyOf(text.getBytes(
                 java.nio.charset.StandardCharsets.ISO_8859_1), (text.length() + 19) / 20 * 20);
@@ -376,8 +386,8 @@ public final class ModelTest {
 
     private void crossings() {
         for (int p = 0; p < m.count(1); p++) {
-            for (int a = 0; a < 14; a++) {
-                for (int b = 0; b < 14; b++) {
+            for (int a = 0; a < 8; a++) {
+                for (int b = 0; b < 8; b++) {
                     int piece = p;
                     int one = a;
                     int other = b;
@@ -393,15 +403,35 @@ public final class ModelTest {
         ask("digest", x::digest, m::digest);
     }
 
-    public static void main(String[] args) {
+    /** Each token behind each beginning of a pattern: whether it is due, and where it is not. */
+    private static int eachToken() {
+        String[] whole = Checks.WHOLE.split(" ");
+        Set<String> tokens = new TreeSet<>(List.of(whole));
+        tokens.addAll(List.of("name", "0", "60", "#", "1000000", "abcdefghijk", ""));
+        StringBuilder start = new StringBuilder();
         int calls = 0;
+        for (String next : whole) {
+            for (String token : tokens) {
+                ModelTest test = new ModelTest(0L);
+                test.teach(start + token);
+                test.teach(start + token + " " + next);
+                test.teach(start + token + " ;");
+                calls += test.calls;
+            }
+            start.append(next).append(' ');
+        }
+        return calls;
+    }
+
+    public static void main(String[] args) {
+        int calls = eachToken();
         int[] errors = new int[12];
         for (int run = 0; run < RUNS; run++) {
             ModelTest test = new ModelTest(20261119L + run);
-            int lessons = test.random.nextInt(3) + 1;
+            int lessons = run % 20 == 0 ? 1 : test.random.nextInt(3) + 1;
             for (int i = 0; i < lessons; i++) {
                 test.teach();
-                int most = 20 + test.random.nextInt(40);
+                int most = run % 20 == 0 ? 9 : 20 + test.random.nextInt(40);
                 for (int k = 0; k < most; k++) {
                     test.question();
                     if (test.random.nextInt(10) == 0) {
@@ -409,8 +439,9 @@ public final class ModelTest {
                     }
                 }
                 for (int p = 0; p < test.m.count(1); p++) {
-                    errors[Math.max(0, test.m.knit(p))]++;
-                    test.x.knit(p);
+                    int piece = p;
+                    test.ask("knit " + p, () -> test.x.knit(piece), () -> test.m.knit(piece));
+                    errors[Math.max(0, test.m.piece(p, 5))]++;
                 }
                 test.whole();
             }

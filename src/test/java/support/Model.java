@@ -699,7 +699,8 @@ final class Model {
                 holes += told.made.holes;
             }
         }
-        return List.of(charts.size(), pieces.size(), done, rows, yarn, holes, tape.length).get(what);
+        return List.of(charts.size(), pieces.size(), done, rows, yarn, holes,
+                tape.length).get(what);
     }
 
     int chart(int chart, int row, int what) {
